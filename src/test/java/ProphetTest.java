@@ -252,6 +252,14 @@ public final class ProphetTest {
       int r = rank;
       Check.answers("30 rank " + r, due[r], () -> lab.prophetByPoints(r));
     }
+    ForecastLab all = with("m9 l1 l1 l1 l1 l1 l1 t1");
+    observe(all, 0, 1, 2, 3, 4);
+    int[] order = {7, 1, 0, 2, 3, 4, 5, 6};
+    for (int rank = 0; rank < 8; rank++) {
+      int r = rank;
+      Check.answers("30 eight prophets, rank " + r, order[r], () -> all.prophetByPoints(r));
+    }
+    Check.fails(all, "30 eight prophets", NO_ELEMENT, () -> all.prophetByPoints(8));
     for (int rank : new int[] {-1, 4, 8, Integer.MIN_VALUE, Integer.MAX_VALUE}) {
       Check.fails(lab, "30 rank", NO_ELEMENT, () -> lab.prophetByPoints(rank));
     }
@@ -268,7 +276,17 @@ public final class ProphetTest {
     observe(lab, 0, 30);
     Check.answers("31 trend", 2, lab::bestProphet);
     observe(lab, 1, 500, 400, 500, 400);
-    Check.answers("31 all series", true, () -> lab.bestProphet() != 2);
+    // The mean errors are now l 320 / 5, t 400 / 3, s 302 / 5.
+    Check.answers("31 all series", 3, lab::bestProphet);
+    ForecastLab all = with("l1 t1 s1 s1 s1 s1 s1 d1");
+    observe(all, 0, 10, 20, 10, 20);
+    Check.answers("31 number 2 of eight", 2, all::bestProphet);
+    all.forget(0);
+    observe(all, 0, 10, 20);
+    Check.answers("31 number 0 of eight", 0, all::bestProphet);
+    ForecastLab none = with("m9 m9 m9 m9 m9 m9 m9 m9");
+    observe(none, 0, 10, 20);
+    Check.fails(none, "31 eight without errors", NO_ELEMENT, none::bestProphet);
   }
 
   private static void promise32() {

@@ -187,6 +187,8 @@ public final class SeriesTest {
     Check.answers("12 equal", 4, () -> with(0, 4, 4, 4, 9).medianByCounting(0, 4));
     Check.answers("11 smaller of two", 0, () -> with(0, 999, 0).median(0, 2));
     Check.answers("12 smaller of two", 0, () -> with(0, 999, 0).medianByCounting(0, 2));
+    Check.answers("11 neighbours", 5, () -> with(0, 4, 5, 5).median(0, 3));
+    Check.answers("12 neighbours", 5, () -> with(0, 4, 5, 5).medianByCounting(0, 3));
     ForecastLab falling = new ForecastLab();
     for (int day = 0; day < 30; day++) falling.observe(0, 30 - day);
     Check.answers("11 thirty", 15, () -> falling.median(0, 30));

@@ -112,6 +112,18 @@ public final class UndoTest {
     Check.answers("41 keeps what was saved", 8, lab::limit);
   }
 
+  private static void restoresProphets() {
+    ForecastLab lab = new ForecastLab();
+    lab.addProphet('m', 2);
+    lab.save();
+    lab.undo();
+    lab.addProphet('d', 7);
+    lab.addProphet('t', 1);
+    Check.answers("43 one prophet", 1, lab::restore);
+    Check.answers("43 its kind", 'm', () -> lab.kind(0));
+    Check.answers("43 its parameter", 2, () -> lab.parameter(0));
+  }
+
   private static void promise42() {
     ForecastLab lab = new ForecastLab();
     Check.answers("42 none", 0, lab::save);
@@ -128,6 +140,7 @@ public final class UndoTest {
   }
 
   private static void promise43() {
+    restoresProphets();
     ForecastLab lab = new ForecastLab();
     Check.fails(lab, "43 nothing saved", BAD_STATE, lab::restore);
     lab.setLimit(7);

@@ -13,12 +13,12 @@ import java.util.Set;
 import java.util.TreeSet;
 
 /** The public face as the document lists it, with its exceptions, and nothing beside it. */
-public final class FaceTest {
+public final class FaceTest extends Check {
   public static void main(String[] args) throws IOException {
-    Check.answers("the face", faceOfDocument(), () -> faceOfClass());
-    Check.answers("the class", "public final", () -> Modifier.toString(ForecastLab.class.getModifiers()));
-    Check.answers("private methods with public names", new TreeSet<String>(), () -> twiceNamed());
-    Check.end("FaceTest");
+    answers(faceOfDocument(), () -> faceOfClass());
+    answers("public final", () -> Modifier.toString(ForecastLab.class.getModifiers()));
+    answers(new TreeSet<String>(), () -> twiceNamed());
+    end("FaceTest");
   }
 
   private static Set<String> faceOfDocument() throws IOException {
@@ -53,6 +53,7 @@ public final class FaceTest {
     return member.toGenericString().replace("ForecastLab.", "").replaceAll("java\\.(lang|util)\\.", "");
   }
 
+  /** Methods of the class that have the name of one of the face, and are none of it. */
   private static Set<String> twiceNamed() {
     Set<String> publicNames = new HashSet<>();
     for (Method method : ForecastLab.class.getDeclaredMethods()) {

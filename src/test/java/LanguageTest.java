@@ -6,7 +6,7 @@ import java.util.regex.Matcher;
 import java.util.regex.Pattern;
 
 /** Those rules of ../shared/LANGUAGE.md that can be seen by looking for words. */
-public final class LanguageTest {
+public final class LanguageTest extends Check {
   private static final String[] FORBIDDEN = {
       "->", "::", "\\bpackage\\b", "\\btry\\b", "\\bcatch\\b", "\\bfinally\\b", "\\bassert\\b", "\\bsynchronized\\b",
       "\\binstanceof\\b", "\\bstatic \\{", "Exact\\b", "\\bDouble\\.", "\\bSystem\\.(?!arraycopy\\b)", "\\bprotected\\b",
@@ -18,11 +18,12 @@ public final class LanguageTest {
     String code = String.join("\n", lines).replaceAll("(?s)/\\*.*?\\*/", "").replaceAll("//[^\n]*", "");
     for (String forbidden : FORBIDDEN) {
       Matcher matcher = Pattern.compile(forbidden).matcher(code);
-      Check.answers("code outside the language: " + forbidden, "none", () -> matcher.find() ? matcher.group() : "none");
+      answers("none", () -> matcher.find() ? "outside the language: " + matcher.group() : "none");
     }
-    Check.answers("imports", List.of("import java.util.NoSuchElementException;"),
+    answers(List.of("import java.util.NoSuchElementException;"),
         () -> lines.stream().filter(line -> line.startsWith("import")).toList());
-    Check.answers("at most twelve classes", true, () -> code.split("\\bclass ").length - 1 <= 12);
-    Check.end("LanguageTest");
+    int classes = code.split("\\bclass ").length - 1;
+    answers("at most twelve classes", () -> classes <= 12 ? "at most twelve classes" : classes + " classes");
+    end("LanguageTest");
   }
 }

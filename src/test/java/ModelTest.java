@@ -7,9 +7,10 @@ import java.util.Comparator;
 import java.util.List;
 
 /** Promises 1 to 43: long runs of calls, each answered by the class and by the model. */
-public final class ModelTest {
-  private static final int RUNS = 600;
+public final class ModelTest extends Check {
+  private static final int RUNS = 1800;
   private static final int CALLS = 512;
+  private static final int QUESTIONS_AT_END = 210;
   private static final int[] EDGES = {-1, 0, 1, 2, 3, 4, 5, 8, 9, 10, 29, 30, 31, 999, 1000, Integer.MIN_VALUE, Integer.MAX_VALUE};
 
   /** The same runs each time: no random source is asked. */
@@ -31,9 +32,9 @@ public final class ModelTest {
   public static void main(String[] args) {
     for (int run = 0; run < RUNS; run++) {
       int number = run;
-      Check.answers("run " + number, "as due", () -> new ModelTest().compare(number % 6));
+      answers("as due", () -> new ModelTest().compare(number % 6));
     }
-    Check.end("ModelTest");
+    end("ModelTest");
   }
 
   private static int below(int bound) {
@@ -44,13 +45,16 @@ public final class ModelTest {
   /** The styles differ in what is called most, so that series get full, changes are undone, programs are run. */
   private String compare(int style) {
     String wrong = style < 4 ? addProphets() : null;
-    while (wrong == null && calls < CALLS) {
+    // One run of three goes on to the last call; the others leave room to ask all that can be asked.
+    int length = below(3) == 0 ? CALLS : 20 + below(CALLS - QUESTIONS_AT_END - 20);
+    while (wrong == null && calls < length) {
       int choice = below(10);
       if (choice < 3 && style != 5) wrong = call("observe", below(style < 2 ? 2 : 4), value(style));
       else if (choice < 4 && style >= 3) wrong = program();
       else if (choice < 5 && style == 2) wrong = call("undo");
       else wrong = anyCall();
     }
+    if (wrong == null) wrong = askAll();
     return wrong == null ? "as due" : trace + wrong;
   }
 
@@ -120,7 +124,7 @@ public final class ModelTest {
     throw new IllegalArgumentException(name);
   }
 
-  /** Null if the answers are the same, and at some calls if all that can be asked is. */
+  /** Null if the answers are the same. */
   private String call(Method method, Object... arguments) {
     if (calls >= CALLS) return null;
     calls++;
@@ -128,24 +132,23 @@ public final class ModelTest {
     trace.append(text);
     Object got = outcome(lab, method, arguments);
     Object due = outcome(model, modelMethod(method), arguments);
-    if (!due.equals(got)) return "answered " + got + ", due is " + due;
-    return calls % 64 == 0 ? compareAll() : null;
+    return due.equals(got) ? null : "answered " + got + ", due is " + due;
   }
 
-  private String compareAll() {
+  private String askAll() {
+    String wrong = null;
     for (Method method : methods) {
       boolean isQuestion = !method.getName().matches(
           "addProphet|observe|setLimit|forget|write.*|type|run|undo|save|restore");
       if (!isQuestion) continue;
-      for (int first = 0; first < (method.getParameterCount() > 0 ? 8 : 1); first++) {
+      for (int first = 0; wrong == null && first < (method.getParameterCount() > 0 ? 8 : 1); first++) {
         Object[] arguments = new Object[method.getParameterCount()];
-        for (int i = 0; i < arguments.length; i++) arguments[i] = i == 0 ? first : below(method.getName().equals("errors") ? 4 : 9);
-        Object got = outcome(lab, method, arguments);
-        Object due = outcome(model, modelMethod(method), arguments);
-        if (!due.equals(got)) return method.getName() + Arrays.toString(arguments) + " answered " + got + ", due is " + due;
+        boolean isOfProphet = method.getName().matches("hasForecast|forecast.*|error.*|points");
+        for (int i = 0; i < arguments.length; i++) arguments[i] = i == 0 ? first : below(isOfProphet ? 4 : 9);
+        wrong = call(method, arguments);
       }
     }
-    return null;
+    return wrong;
   }
 
   private static Method modelMethod(Method method) {

@@ -181,16 +181,19 @@ public final class ChangeTest extends Check {
 
   @Says("Adds a prophet.")
   static void promise02ANewProphetHasNoScores() {
-    Lab lab = new Lab().prophets("l1").see(1, 5, 9, 9);
-    lab.forget(1);
-    lab.undo();
-    lab.forget(1);
-    for (int undone = 0; undone < 5; undone++) lab.undo();
-    answers(0, lab::prophets);
-    lab.prophets("s4");
-    answers(0, () -> lab.errors(0, 1));
-    answers(0.0, () -> lab.errorSum(0, 1));
-    answers(0, () -> lab.points(0, 1));
+    for (int series = 0; series < 4; series++) {
+      int s = series;
+      Lab lab = new Lab().prophets("l1").see(s, 5, 9, 9);
+      lab.forget(s);
+      lab.undo();
+      lab.forget(s);
+      for (int undone = 0; undone < 5; undone++) lab.undo();
+      answers(0, lab::prophets);
+      lab.prophets("s4");
+      answers(0, () -> lab.errors(0, s));
+      answers(0.0, () -> lab.errorSum(0, s));
+      answers(0, () -> lab.points(0, s));
+    }
   }
 
   // ---- 3: observe

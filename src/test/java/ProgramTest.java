@@ -54,6 +54,13 @@ public final class ProgramTest extends Check {
     return values.toString().trim();
   }
 
+  /** Whole commands of this length together, from 8 on, with the semicolon behind them. */
+  private static String commandsOf(int length) {
+    StringBuilder text = new StringBuilder(length % 2 == 0 ? "see 0=1" : "see 0=11");
+    while (text.length() + 1 < length) text.append(",1");
+    return text.append(';').toString();
+  }
+
   // ---- 37: type
 
   @Says({"Appends a character to the program buffer.", "Returns the number of characters in the buffer afterwards."})
@@ -188,6 +195,20 @@ public final class ProgramTest extends Check {
     String eight = "limit 4;limit 5;see 1=1,2;see 2=3,4;see 3=5,6;forget 3;see 3";
     same(60, eight.length());
     isNoProgram(lab, eight, 60);
+  }
+
+  @Says("Parses the program buffer and executes the commands in order")
+  static void promise38RunsAFullBufferThatEndsInEachCommand() {
+    for (String last : new String[] {"limit 9", "forget 2", "see 3=1", "see 3=12", "see 3=123", "see 3=1,2"}) {
+      String text = commandsOf(60 - last.length()) + last;
+      same(60, text.length());
+      runs(new Lab(), text, 2);
+    }
+    for (String last : new String[] {"prophet l", "prophet t", "prophet m3"}) {
+      String text = commandsOf(51 - last.length()) + "forget 0;" + last;
+      same(60, text.length());
+      runs(new Lab(), text, 3);
+    }
   }
 
   @Says("Throws `IllegalArgumentException` if the text is not a program; its error position is recorded")
@@ -372,6 +393,20 @@ public final class ProgramTest extends Check {
         Object got = outcome(lab::run);
         same(Grammar.isProgram(prefix), got != BAD_ARGUMENT);
         answers(Grammar.isProgram(prefix) ? NO_ELEMENT : length, lab::errorPosition);
+      }
+    }
+  }
+
+  @Says("or the length of the text if the text is a proper prefix of a program")
+  static void promise39IsSixtyIfAFullBufferIsAProperPrefix() {
+    String[] programs = {"prophet l", "prophet t", "prophet m3", "see 3=12,345", "limit 9", "forget 2"};
+    for (String program : programs) {
+      for (int length = 0; length < program.length(); length++) {
+        String text = commandsOf(60 - length) + program.substring(0, length);
+        if (Grammar.isProgram(text)) continue;
+        Lab lab = new Lab().enter(text);
+        refuses(lab, BAD_STATE, () -> lab.type('1'));
+        isNoProgram(new Lab(), text, 60);
       }
     }
   }

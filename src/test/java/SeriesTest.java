@@ -587,6 +587,26 @@ public final class SeriesTest extends Check {
     answers(true, () -> strays(1, 0, 500, 999, 0, 999, 0));
   }
 
+  private static int[] turned(int[] five, int by, int next) {
+    int[] values = new int[6];
+    for (int i = 0; i < 5; i++) values[i] = five[(i + by) % 5];
+    values[5] = next;
+    return values;
+  }
+
+  @Says({"where m is the median of the values of the 5 days before", "of the distances of these 5 values from m"})
+  static void promise14EachOfTheFiveDaysCounts() {
+    int[] five = {20, 10, 10, 14, 6};
+    int[] steps = {10, 20, 30, 40, 50};
+    for (int by = 0; by < 5; by++) {
+      // m = 10 and d = 4, of the distances 10, 0, 0, 4, 4; then m = 30 and d = 10.
+      int[][] inside = {turned(five, by, 22), turned(five, by, 0), turned(steps, by, 60), turned(steps, by, 0)};
+      int[][] outside = {turned(five, by, 23), turned(steps, by, 61)};
+      for (int[] values : inside) answers(false, () -> strays(3, values));
+      for (int[] values : outside) answers(true, () -> strays(3, values));
+    }
+  }
+
   @Says("The distance of two numbers is the absolute value of their difference.")
   static void promise14CountsDistancesToBothSides() {
     answers(true, () -> strays(9, 0, 0, 0, 0, 0, 999));

@@ -113,6 +113,30 @@ public final class UndoTest extends Check {
     answers(3, lab::limit);
   }
 
+  private static Lab withFullSeries(int series) {
+    Lab lab = new Lab().prophets("l1 s3");
+    for (int day = 0; day < 30; day++) lab.observe(series, 500 + day * 7 % 50);
+    return lab;
+  }
+
+  @Says("The state that is undone, saved and restored consists of everything")
+  static void promise41BringsBackAFullSeriesInPlaceOfAnother() {
+    for (int series = 0; series < 4; series++) {
+      int s = series;
+      Lab lab = withFullSeries(s);
+      String before = View.stateOf(lab);
+      lab.forget(s);
+      lab.enter("see " + s + "=1,2,3,4,5,6,7,8,9,0,1,2,3,4,5,6,7,8,9,0,1,2,3,4,5,6,7").run();
+      lab.enter("see " + s + "=8,9,10").run();
+      answers(10, () -> lab.value(s, 29));
+      lab.undo();
+      lab.undo();
+      answers(5, lab::undo);
+      same(before, View.stateOf(lab));
+      answers(500 + 29 * 7 % 50, () -> lab.value(s, 29));
+    }
+  }
+
   @Says({"The 8 latest changes can be undone.", "Returns the number of changes that can still be undone."})
   static void promise41UndoesEightChanges() {
     for (int changes = 1; changes <= 8; changes++) {
@@ -374,6 +398,21 @@ public final class UndoTest extends Check {
       answers(29, () -> lab.points(0, s));
       answers(0.0, () -> lab.errorSum(0, s));
       refuses(lab, BAD_STATE, () -> lab.observe(s, 1));
+    }
+  }
+
+  @Says("The state that is undone, saved and restored consists of everything")
+  static void promise43BringsBackAFullSeriesInPlaceOfAnother() {
+    for (int series = 0; series < 4; series++) {
+      int s = series;
+      Lab lab = withFullSeries(s);
+      String saved = View.stateOf(lab);
+      lab.save();
+      lab.forget(s);
+      lab.seeTimes(s, 30, 9);
+      lab.restore();
+      same(saved, View.stateOf(lab));
+      answers(500 + 29 * 7 % 50, () -> lab.value(s, 29));
     }
   }
 

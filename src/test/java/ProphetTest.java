@@ -1,3 +1,5 @@
+import java.util.function.BiFunction;
+
 /** Promises 19 to 33: prophets, their forecasts and their scores. */
 public final class ProphetTest extends Check {
   /** A call with a prophet and a series. */
@@ -26,7 +28,7 @@ public final class ProphetTest extends Check {
   }
 
   /** The prophets with the numbers -1 and n, where there are n, are none. */
-  private static void refusesNoSuchProphet(java.util.function.BiFunction<Lab, Integer, Object> call) {
+  private static void refusesNoSuchProphet(BiFunction<Lab, Integer, Object> call) {
     for (String prophets : new String[] {"", "l1", "l1 m1 t1", "l1 m1 d1 t1 s1 l1 m1"}) {
       Lab lab = prophets.isEmpty() ? new Lab() : with(prophets);
       lab.see(0, 4, 5, 6);

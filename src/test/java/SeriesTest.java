@@ -1,3 +1,5 @@
+import java.util.Arrays;
+
 /** Promises 6 to 18: the properties of series. */
 public final class SeriesTest extends Check {
   /** A call with a series and a number of values. */
@@ -198,7 +200,7 @@ public final class SeriesTest extends Check {
       for (int count = 1; count <= days; count++) {
         int[] last = new int[count];
         for (int i = 0; i < count; i++) last[i] = valueOn(days - 1 - i);
-        java.util.Arrays.sort(last);
+        Arrays.sort(last);
         int c = count;
         answers(last[(count - 1) / 2], () -> median.of(lab, 1, c));
       }

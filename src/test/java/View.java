@@ -79,7 +79,7 @@ final class View {
   }
 
   /** The state in few calls. */
-  static String briefly(Lab again) {
+  private static String briefly(Lab again) {
     int prophets = again.prophets();
     StringBuilder text = new StringBuilder("limit " + again.limit() + " prophets");
     for (int prophet = 0; prophet < prophets; prophet++) {

@@ -361,6 +361,7 @@ public final class ForecastLab {
         now.enlist((char) first, second);
         return true;
       case 's':
+        // A number has at most three digits, so no value is out of range.
         if (!isSeries(first) || now.series[first].isFull()) return false;
         now.append(first, second);
         return true;
